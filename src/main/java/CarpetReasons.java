@@ -242,7 +242,6 @@ public final class CarpetReasons {
         if (!Tapes.isTape(tape)) return NONE;
         if (tapes.isEmpty(tape)) return 100;
         if (tapes.sortOf(tape) != Tapes.SHORTS) return CAST;
-        if (i < 0) return 100;
         for (int cell = 0; cell < CELLS; cell++) {
             if (!tapes.hasPlace(tape, i + cell)) return 100 + cell;
             if (tapes.itemAt(tape, i + cell) != carpet.wear[cell]) return cell;
@@ -383,7 +382,7 @@ public final class CarpetReasons {
 
         static int first(int bits) {
             for (int cell = 0; cell < CELLS; cell++) {
-                if (has(bits, cell)) return cell;
+                if ((bits >> cell & 1) != 0) return cell;
             }
             return NOT_ANY;
         }
@@ -477,9 +476,7 @@ public final class CarpetReasons {
             v[goer] = itsV;
             from[goer] = itsFrom;
             to[goer] = itsTo;
-            // A goer whom undo() took away may have left his own here.
-            putAway(goer, false);
-            for (int part = 0; part < PARTS; part++) rows[goer * PARTS + part] = 0;
+            // Nothing writes beyond the last goer, so he is not AWAY and his ROW is 0.
             findWay(goer);
             return goer;
         }
@@ -498,8 +495,8 @@ public final class CarpetReasons {
         }
 
         private int walkTo(int goer) {
-            int barred = Kinds.isUnder(kind[goer], Kinds.BLIND) ? 0 : furniture;
-            return search.walk(from[goer], to[goer], EVERY_CELL & ~barred);
+            boolean isBlind = kind[goer] == Kinds.BLIND || kind[goer] == Kinds.DANCER;
+            return search.walk(from[goer], to[goer], isBlind ? EVERY_CELL : EVERY_CELL & ~furniture);
         }
 
         /** TREADS of a goer on a cell on this many DAYS from now on, together. */
@@ -515,9 +512,11 @@ public final class CarpetReasons {
         }
 
         private int treadsOnWay(int goer, int days) {
-            if (Kinds.isUnder(kind[goer], Kinds.PACER)) return 2 * days;
-            if (Kinds.isUnder(kind[goer], Kinds.THIEF)) return (day + days) / 2 - day / 2;
-            return days;
+            switch (kind[goer]) {
+                case Kinds.PACER: case Kinds.TURNER: return 2 * days;
+                case Kinds.THIEF: case Kinds.TOLD: return (day + days) / 2 - day / 2;
+                default: return days;
+            }
         }
 
         private int treadsOfRow(int goer, int days) {
@@ -820,13 +819,13 @@ public final class CarpetReasons {
 
     /** What is told by hand: SEEN, the PLAN, the BOOK. */
     private static final class Notes {
-        private static final int MOST_SEEN = 5, MOST_PLANNED = 10, MOST_BOOKED = 8;
+        static final int MOST_SEEN = 5, MOST_PLANNED = 10, MOST_BOOKED = 8;
 
         private final int[] seenCells = new int[MOST_SEEN];
         private final int[] seenMore = new int[MOST_SEEN];
         private final int[] seenDays = new int[MOST_SEEN];
-        private final int[] planWhats = new int[MOST_PLANNED];
-        private final int[] planNumbers = new int[MOST_PLANNED];
+        final int[] planWhats = new int[MOST_PLANNED];
+        final int[] planNumbers = new int[MOST_PLANNED];
         private final int[] bookCells = new int[MOST_BOOKED];
         private final int[] bookWears = new int[MOST_BOOKED];
         int seen;
@@ -880,18 +879,6 @@ public final class CarpetReasons {
             return true;
         }
 
-        void letPlanGo(Carpet carpet) {
-            for (int k = 0; k < planned && k < MOST_PLANNED; k++) {
-                int n = planNumbers[k];
-                switch (planWhats[k]) {
-                    case 0: carpet.spend(1); break;
-                    case 1: carpet.putAway(n, true); break;
-                    case 2: carpet.wear[n] = 0; break;
-                    default: carpet.furnish(carpet.furniture ^ 1 << n); break;
-                }
-            }
-        }
-
         int forgetBook() {
             booked = 0;
             return booked;
@@ -937,7 +924,15 @@ public final class CarpetReasons {
 
         Carpet behindPlan() {
             trial.become(now);
-            notes.letPlanGo(trial);
+            for (int k = 0; k < notes.planned && k < Notes.MOST_PLANNED; k++) {
+                int n = notes.planNumbers[k];
+                switch (notes.planWhats[k]) {
+                    case 0: trial.spend(1); break;
+                    case 1: trial.putAway(n, true); break;
+                    case 2: trial.wear[n] = 0; break;
+                    default: trial.furnish(trial.furniture ^ 1 << n); break;
+                }
+            }
             return trial;
         }
 
@@ -1000,7 +995,10 @@ public final class CarpetReasons {
                 for (int other = one; other < CELLS; other++) {
                     int set = 1 << one | 1 << other;
                     if ((set & ~free) != 0) continue;
-                    int sum = wearWithFurniture(set);
+                    trial.become(now);
+                    trial.furnish(now.furniture | set);
+                    trial.spend(STAND_DAYS);
+                    int sum = trial.wearOfAll();
                     if (sum < least || sum == least && best >= 0 && set < best) {
                         least = sum;
                         best = set;
@@ -1014,13 +1012,6 @@ public final class CarpetReasons {
             int taken = now.furniture;
             for (int goer = 0; goer < now.goers; goer++) taken |= 1 << now.from[goer] | 1 << now.to[goer];
             return EVERY_CELL & ~taken;
-        }
-
-        private int wearWithFurniture(int more) {
-            trial.become(now);
-            trial.furnish(now.furniture | more);
-            trial.spend(STAND_DAYS);
-            return trial.wearOfAll();
         }
 
         /** A new cell changes no other, so it helps just where it alone keeps its cell from being bald. */
