@@ -661,8 +661,8 @@ public final class CarpetReasons {
                 lengths[made] = 0;
                 return -10 - at;
             }
+            // THE TEXT is empty then: it goes on in the next stretch.
             made++;
-            lengths[made] = 0;
             return made - 1;
         }
 

@@ -412,7 +412,8 @@ public final class PromiseTests {
             {"soft 1 !!!!!c=1", "11"}, {"soft 1 ((((!c=1))))", "11"}, {"soft 1 !(!(!c=1))", "11"}, {"soft 1 !(!(c=1))", "-"},
             {"soft 1 !(!((c=1)))", "11"}, {"soft 1 !((!c=1)&!(c=1))", "-"}, {"soft 1 (((!c=1|(c=1))))", "-"}, {"soft 1 (((!c=1|((c=1)))))", "16"},
             {"soft 1 !(((c=1)))&((((c=1))))&!!!!c=1|c=1", "-"}, {"soft 1 !(!!c=1&(!(c=1)))", "17"},
-            {"bald", "4"}, {"bald 1 ", "6"}, {"bald 100", "7"}, {"bald 1;", "7"}, {"bald 1;;", "7"},
+            {"bald", "4"}, {"bald :", "5"}, {"bald /", "5"}, {"bald 1:", "6"}, {"bald 1/", "6"}, {"soft 1 c=/", "9"}, {"soft 1 c?1", "8"},
+            {"bald 1 ", "6"}, {"bald 100", "7"}, {"bald 1;", "7"}, {"bald 1;;", "7"},
             {"bald 1;bald 2x", "13"}, {"bald 1; bald 2", "7"}, {"hard 0 v>9;soft 0 k<0|x=3&!g=5", "-"},
             {"bald 1;bald 2;bald 3;bald 4;bald 5;bald 6;bald 7;bald 8;bald 9;bald 0;", "69"},
             {"bald 1;bald 2;bald 3;bald 4;bald 5;bald 6;bald 7;bald 8;bald 9;bald 00;bald 1", "70"},
@@ -421,6 +422,12 @@ public final class PromiseTests {
             int want = f[1].equals("-") ? 0 : -10 - Integer.parseInt(f[1]);
             due("room of '" + f[0] + "'", room(new CarpetReasons(), f[0]), want);
         }
+        CarpetReasons x = new CarpetReasons();
+        due("a longer text", room(x, "soft 1 c=1&c=2x"), -24);
+        due("leaves nothing of it behind a shorter one", room(x, "soft 1 c="), -19);
+        due("nor a digit", room(x, "soft 1 c=1&"), -21);
+        due("nor more", room(x, "soft 1 c=1"), 0);
+        due("the next is read alone", room(x, "bald"), -14);
         due("room of a 0 sign", room(new CarpetReasons(), "soft\u0000"), -14);
     }
 
