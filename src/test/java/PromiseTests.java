@@ -1,72 +1,53 @@
 /** For each promise answers that were worked out by hand from the document. */
-public final class PromiseTests {
-    private static final int NONE = -1, BAD = -2, STATE = -3, FULL = -4, NOT_ANY = -5;
-    private static final int NOTHING = -11, CAST = -12, PLACE = -13, SIZE = -14;
-    private static final long NO = Long.MIN_VALUE;
+public final class PromiseTests extends Sentences {
     private static final int MIN = Integer.MIN_VALUE, MAX = Integer.MAX_VALUE;
     private static final int GOER = 0, PACER = 1, BLIND = 2, THIEF = 3, TURNER = 4, DANCER = 5, TOLD = 6;
 
-    private static int wrong;
-    private static int checked;
-    private static String promise;
-
-    private static void due(String call, long got, long want) {
-        checked++;
-        if (got == want) return;
-        wrong++;
-        System.out.println(promise + ": " + call + " answered " + got + ", due is " + want);
-    }
-
-    private static void promise(int number, String name) {
-        promise = "promise " + number + " (" + name + ")";
-    }
-
     public static void main(String[] args) {
-        newObject();
-        goer();
-        ofItsOwn();
-        ofWays();
-        ofTreads();
-        ofYields();
-        set();
-        move();
-        away();
-        stand();
-        row();
-        feed();
-        room();
-        roomFaults();
-        told();
-        pass();
-        on();
-        worn();
-        meet();
-        who();
-        bestStand();
-        bestLay();
-        see();
-        starts();
-        can();
-        sole();
-        odds();
-        mean();
-        plan();
-        ends();
-        book();
-        looked();
-        judge();
-        imageAndUndo();
-        act();
-        trace();
-        taken();
-        count();
-        tape();
-        item();
-        read();
-        shift();
-        constants();
-        System.out.println(checked + " answers, " + wrong + " wrong");
-        if (wrong > 0) System.exit(1);
+        sentence("1: a new object", PromiseTests::newObject);
+        sentence("2: goer", PromiseTests::goer);
+        sentence("3: of", PromiseTests::ofItsOwn);
+        sentence("3: of: ways", PromiseTests::ofWays);
+        sentence("3: of: treads", PromiseTests::ofTreads);
+        sentence("3: of: yields", PromiseTests::ofYields);
+        sentence("4: set", PromiseTests::set);
+        sentence("5: move", PromiseTests::move);
+        sentence("6: away", PromiseTests::away);
+        sentence("7: stand", PromiseTests::stand);
+        sentence("8: row", PromiseTests::row);
+        sentence("9: feed", PromiseTests::feed);
+        sentence("10: room", PromiseTests::room);
+        sentence("10: room: faults", PromiseTests::roomFaults);
+        sentence("11: told", PromiseTests::told);
+        sentence("12: pass", PromiseTests::pass);
+        sentence("13: on", PromiseTests::on);
+        sentence("14: worn", PromiseTests::worn);
+        sentence("15: meet", PromiseTests::meet);
+        sentence("16: who", PromiseTests::who);
+        sentence("17: best: stand", PromiseTests::bestStand);
+        sentence("17: best: lay", PromiseTests::bestLay);
+        sentence("18: see", PromiseTests::see);
+        sentence("19: starts", PromiseTests::starts);
+        sentence("20: can", PromiseTests::can);
+        sentence("21: sole", PromiseTests::sole);
+        sentence("22: odds", PromiseTests::odds);
+        sentence("23: mean", PromiseTests::mean);
+        sentence("24: plan", PromiseTests::plan);
+        sentence("25: ends", PromiseTests::ends);
+        sentence("26: book", PromiseTests::book);
+        sentence("27: looked", PromiseTests::looked);
+        sentence("28: judge", PromiseTests::judge);
+        sentence("29: image, 30: undo", PromiseTests::imageAndUndo);
+        sentence("31: act", PromiseTests::act);
+        sentence("32: trace", PromiseTests::trace);
+        sentence("33: taken", PromiseTests::taken);
+        sentence("34: count", PromiseTests::count);
+        sentence("35: tape", PromiseTests::tape);
+        sentence("36: item", PromiseTests::item);
+        sentence("37: read", PromiseTests::read);
+        sentence("38: shift", PromiseTests::shift);
+        sentence("the constants", PromiseTests::constants);
+        end();
     }
 
     // ---- helpers
@@ -80,12 +61,6 @@ public final class PromiseTests {
     private static int room(CarpetReasons x, String text) {
         for (char c : text.toCharArray()) x.feed(c);
         return x.room();
-    }
-
-    private static int cells(int... numbers) {
-        int bits = 0;
-        for (int n : numbers) bits |= 1 << n;
-        return bits;
     }
 
     private static void dueWay(CarpetReasons x, int goer, int... way) {
@@ -113,7 +88,6 @@ public final class PromiseTests {
     // ---- goers, rooms, the carpet
 
     private static void newObject() {
-        promise(1, "a new object");
         CarpetReasons x = new CarpetReasons();
         for (int what = 0; what < 7; what++) due("count(" + what + ")", x.count(what), 0);
         for (int c = 0; c < 16; c++) due("wear of " + c, x.told(10 + c), 0);
@@ -127,7 +101,6 @@ public final class PromiseTests {
     }
 
     private static void goer() {
-        promise(2, "goer");
         CarpetReasons x = new CarpetReasons();
         int[][] none = {{-1, 0, 0, 0}, {7, 0, 0, 0}, {0, 0, -1, 0}, {0, 0, 16, 0}, {0, 0, 0, -1}, {0, 0, 0, 16},
             {MIN, 0, 0, 0}, {MAX, 0, 0, 0}, {7, 10, 0, 0}, {0, -1, 16, 0}, {0, 10, 0, MAX}};
@@ -154,7 +127,6 @@ public final class PromiseTests {
     }
 
     private static void ofItsOwn() {
-        promise(3, "of");
         CarpetReasons x = with(TURNER, 7, 4, 11, GOER, 0, 0, 0);
         int[] own = {4, 7, 4, 11, 0};
         for (int what = 0; what < 5; what++) due("of(0, " + what + ")", x.of(0, what), own[what]);
@@ -166,7 +138,6 @@ public final class PromiseTests {
     }
 
     private static void ofWays() {
-        promise(3, "of: ways");
         CarpetReasons x = with(GOER, 0, 0, 15, PACER, 0, 15, 0, BLIND, 0, 0, 3, DANCER, 0, 5, 5, GOER, 0, 13, 4,
             TOLD, 0, 7, 4);
         dueWay(x, 0, 0, 1, 2, 3, 7, 11, 15);
@@ -207,7 +178,6 @@ public final class PromiseTests {
     }
 
     private static void ofTreads() {
-        promise(3, "of: treads");
         CarpetReasons x = with(GOER, 9, 0, 2, PACER, 9, 0, 2, BLIND, 9, 0, 2, THIEF, 9, 0, 2, TURNER, 3, 0, 2,
             DANCER, 9, 0, 2);
         dueTreads(x, 0, 0, 1, 1, 1, 2, 1);
@@ -245,7 +215,6 @@ public final class PromiseTests {
     }
 
     private static void ofYields() {
-        promise(3, "of: yields");
         CarpetReasons x = with(GOER, 2, 0, 0, DANCER, 9, 3, 5);
         for (int c = 0; c < 16; c++) due("without a room", x.of(0, 50 + c), 1);
         room(x, "soft 3 c=1|c=2|c=3&x=3|c=4&x=3");
@@ -273,7 +242,6 @@ public final class PromiseTests {
     }
 
     private static void set() {
-        promise(4, "set");
         CarpetReasons x = new CarpetReasons();
         due("set(3, 9999)", x.set(3, 9999), 0);
         due("set(3, 0)", x.set(3, 0), 9999);
@@ -285,7 +253,6 @@ public final class PromiseTests {
     }
 
     private static void move() {
-        promise(5, "move");
         CarpetReasons x = with(GOER, 0, 0, 3, GOER, 0, 5, 5);
         due("move(0, 0, 15)", x.move(0, 0, 15), 0);
         due("move(0, 1, 14)", x.move(0, 1, 14), 3);
@@ -299,7 +266,6 @@ public final class PromiseTests {
     }
 
     private static void away() {
-        promise(6, "away");
         CarpetReasons x = with(GOER, 0, 0, 3, GOER, 0, 5, 5);
         due("away(1, false)", x.away(1, false), 0);
         due("away(1, true)", x.away(1, true), 0);
@@ -312,7 +278,6 @@ public final class PromiseTests {
     }
 
     private static void stand() {
-        promise(7, "stand");
         CarpetReasons x = new CarpetReasons();
         due("stand(0, false)", x.stand(0, false), 0);
         due("stand(15, true)", x.stand(15, true), 0);
@@ -326,7 +291,6 @@ public final class PromiseTests {
     }
 
     private static void row() {
-        promise(8, "row");
         CarpetReasons x = with(THIEF, 0, 0, 3, TOLD, 0, 5, 5, TOLD, 0, 5, 5);
         due("row(1, 0, 9)", x.row(1, 0, 9), 0);
         due("row(1, 3, 5)", x.row(1, 3, 5), 0);
@@ -343,7 +307,6 @@ public final class PromiseTests {
     }
 
     private static void feed() {
-        promise(9, "feed");
         CarpetReasons x = new CarpetReasons();
         for (int sign : new int[] {-1, 128, MIN, MAX, 256}) due("feed(" + sign + ")", x.feed(sign), BAD);
         due("feed(0)", x.feed(0), 1);
@@ -355,7 +318,6 @@ public final class PromiseTests {
     }
 
     private static void room() {
-        promise(10, "room");
         CarpetReasons x = with(GOER, 0, 0, 0);
         CarpetReasons w = new CarpetReasons();
         for (char c : "soft 5 c=0;bald 3".toCharArray()) w.feed(c);
@@ -399,7 +361,6 @@ public final class PromiseTests {
     }
 
     private static void roomFaults() {
-        promise(10, "room: faults");
         String[][] faults = {
             {"", "0"}, {" bald 1", "0"}, {"x", "0"}, {"s", "1"}, {"sofd", "3"}, {"hald", "2"}, {"bard", "2"},
             {"soft", "4"}, {"soft ", "5"}, {"soft1", "4"}, {"soft  1", "5"}, {"soft 1", "6"}, {"soft 12", "7"},
@@ -432,7 +393,6 @@ public final class PromiseTests {
     }
 
     private static void told() {
-        promise(11, "told");
         CarpetReasons x = with(GOER, 0, 0, 1, THIEF, 0, 8, 9, PACER, 0, 15, 15);
         x.set(4, 29);
         x.set(5, 30);
@@ -475,7 +435,6 @@ public final class PromiseTests {
     // ---- days
 
     private static void pass() {
-        promise(12, "pass");
         CarpetReasons x = with(GOER, 0, 0, 1, PACER, 0, 1, 1, THIEF, 0, 2, 2, TOLD, 0, 3, 3, TURNER, 4, 4, 5,
             DANCER, 0, 15, 15);
         for (int part = 0; part < 4; part++) x.row(3, part, part + 1);
@@ -516,7 +475,6 @@ public final class PromiseTests {
     }
 
     private static void on() {
-        promise(13, "on");
         CarpetReasons x = with(GOER, 0, 0, 1, PACER, 0, 1, 1);
         x.set(0, 25);
         x.set(5, 9999);
@@ -544,7 +502,6 @@ public final class PromiseTests {
     }
 
     private static void worn() {
-        promise(14, "worn");
         CarpetReasons x = with(GOER, 0, 0, 1, PACER, 0, 1, 1, THIEF, 0, 2, 2);
         due("worn(0)", x.worn(0), 30);
         due("worn(1)", x.worn(1), 10);
@@ -563,7 +520,6 @@ public final class PromiseTests {
     }
 
     private static void meet() {
-        promise(15, "meet");
         CarpetReasons x = with(GOER, 0, 0, 3, THIEF, 0, 1, 13, GOER, 0, 12, 12);
         due("meet(0, 1)", x.meet(0, 1), cells(1));
         due("meet(1, 0)", x.meet(1, 0), cells(1));
@@ -582,7 +538,6 @@ public final class PromiseTests {
     // ---- prints, furniture, new carpet
 
     private static void who() {
-        promise(16, "who");
         CarpetReasons x = with(GOER, 0, 0, 1, GOER, 0, 1, 2, PACER, 0, 0, 2, GOER, 0, 2, 0, THIEF, 0, 9, 9);
         x.set(10, 50);
         due("who(7, 1, 0)", x.who(7, 1, 0), 4);
@@ -612,7 +567,6 @@ public final class PromiseTests {
     }
 
     private static void bestStand() {
-        promise(17, "best: stand");
         CarpetReasons x = with(GOER, 0, 0, 2);
         due("it shuts the corner off", x.best(0), cells(1, 4));
         x.stand(4, true);
@@ -662,7 +616,6 @@ public final class PromiseTests {
     }
 
     private static void bestLay() {
-        promise(17, "best: lay");
         CarpetReasons x = with(GOER, 0, 5, 6);
         due("none is bald by then", x.best(1), NOT_ANY);
         x.set(6, 11);
@@ -693,7 +646,6 @@ public final class PromiseTests {
     // ---- seen, odds
 
     private static void see() {
-        promise(18, "see");
         CarpetReasons x = new CarpetReasons();
         for (int c : new int[] {-2, 16, MIN, MAX}) due("see(" + c + ", -1, -1)", x.see(c, -1, -1), NONE);
         for (int more : new int[] {-1, 10000, MIN, MAX}) due("see(0, " + more + ", 0)", x.see(0, more, 0), BAD);
@@ -711,7 +663,6 @@ public final class PromiseTests {
     }
 
     private static void starts() {
-        promise(19, "starts");
         CarpetReasons x = with(GOER, 0, 0, 3);
         due("nothing seen", x.starts(0), 65535);
         x.see(1, 2, 2);
@@ -741,7 +692,6 @@ public final class PromiseTests {
     }
 
     private static void can() {
-        promise(20, "can");
         CarpetReasons x = with(TURNER, 1, 0, 1, GOER, 0, 15, 15);
         due("nothing seen: all", x.can(0, 0), 10);
         due("the least", x.can(0, 1), 0);
@@ -768,7 +718,6 @@ public final class PromiseTests {
     }
 
     private static void sole() {
-        promise(21, "sole");
         CarpetReasons x = with(GOER, 0, 0, 1, GOER, 0, 1, 2, BLIND, 0, 2, 3, PACER, 0, 1, 1);
         due("nothing seen: all", x.sole(), 15);
         x.away(1, true);
@@ -784,7 +733,6 @@ public final class PromiseTests {
     }
 
     private static void odds() {
-        promise(22, "odds");
         CarpetReasons x = with(GOER, 0, 0, 0, PACER, 0, 0, 0);
         due("bald only by the pacer: above", x.odds(0, 15, 0), 1);
         due("below", x.odds(0, 15, 1), 2);
@@ -815,7 +763,6 @@ public final class PromiseTests {
     }
 
     private static void mean() {
-        promise(23, "mean");
         CarpetReasons x = with(GOER, 0, 0, 2);
         due("nothing: above", x.mean(0, 0), 0);
         due("below", x.mean(0, 1), 1);
@@ -836,7 +783,6 @@ public final class PromiseTests {
     // ---- plans, books
 
     private static void plan() {
-        promise(24, "plan");
         CarpetReasons x = with(GOER, 0, 0, 2);
         int[][] none = {{-2, 0}, {4, 0}, {MIN, 0}, {MAX, 0}, {1, -1}, {1, 1}, {1, MAX}, {2, -1}, {2, 16}, {3, -1}, {3, 16},
             {3, MIN}};
@@ -856,7 +802,6 @@ public final class PromiseTests {
     }
 
     private static void ends() {
-        promise(25, "ends");
         CarpetReasons x = with(GOER, 0, 0, 2, PACER, 0, 15, 15);
         x.set(5, 40);
         due("without a plan", x.ends(0), 40);
@@ -898,7 +843,6 @@ public final class PromiseTests {
     }
 
     private static void book() {
-        promise(26, "book");
         CarpetReasons x = new CarpetReasons();
         for (int c : new int[] {-2, 16, MIN, MAX}) due("book(" + c + ", -1)", x.book(c, -1), NONE);
         for (int wear : new int[] {-1, 10000, MIN, MAX}) due("book(0, " + wear + ")", x.book(0, wear), BAD);
@@ -913,7 +857,6 @@ public final class PromiseTests {
     }
 
     private static void looked() {
-        promise(27, "looked");
         CarpetReasons x = with(GOER, 0, 0, 0);
         due("no rows", x.looked(), NOT_ANY);
         x.book(3, 0);
@@ -936,7 +879,6 @@ public final class PromiseTests {
     // ---- judging, the image, acts, tapes
 
     private static void judge() {
-        promise(28, "judge");
         CarpetReasons x = new CarpetReasons();
         for (int t : new int[] {-1, 6, MIN, MAX}) due("judge(" + t + ", 0)", x.judge(t, 0), NONE);
         due("it holds nothing", x.judge(0, 0), 100);
@@ -967,7 +909,6 @@ public final class PromiseTests {
     }
 
     private static void imageAndUndo() {
-        promise(29, "image");
         CarpetReasons x = with(TOLD, 3, 0, 2, GOER, 0, 15, 15);
         due("undo without one", x.undo(), STATE);
         room(x, "bald 7;soft 1 c=0");
@@ -982,7 +923,6 @@ public final class PromiseTests {
         due("image()", x.image(), 2);
         due("the image stays beside what goes on", x.told(14), 8);
 
-        promise(30, "undo");
         for (int twice = 0; twice < 2; twice++) {
             x.goer(DANCER, 0, 1, 1);
             if (twice == 0) room(x, "bald 9");
@@ -1055,7 +995,6 @@ public final class PromiseTests {
     }
 
     private static void act() {
-        promise(31, "act");
         CarpetReasons x = with(GOER, 3, 0, 0, PACER, 4, 0, 0, BLIND, 1, 0, 0, THIEF, 2, 0, 0, TURNER, 8, 0, 0,
             DANCER, 0, 0, 0);
         due("a goer steps", x.act(0, 0, 5), 5);
@@ -1103,7 +1042,6 @@ public final class PromiseTests {
     }
 
     private static void trace() {
-        promise(32, "trace");
         CarpetReasons x = with(PACER, 4, 0, 0);
         due("none yet", x.trace(0), NONE);
         x.act(0, 1, 1);
@@ -1116,7 +1054,6 @@ public final class PromiseTests {
     }
 
     private static void taken() {
-        promise(33, "taken");
         CarpetReasons x = with(PACER, 0, 0, 0, BLIND, 0, 0, 0, THIEF, 0, 0, 0, TURNER, 0, 0, 0, DANCER, 0, 0, 0,
             TOLD, 0, 0, 0);
         int[] above = {0, 0, 0, PACER, BLIND, THIEF};
@@ -1134,7 +1071,6 @@ public final class PromiseTests {
     }
 
     private static void count() {
-        promise(34, "count");
         CarpetReasons x = with(GOER, 0, 0, 0, GOER, 0, 0, 0);
         room(x, "bald 1");
         room(x, "bald 1");
@@ -1150,7 +1086,6 @@ public final class PromiseTests {
     }
 
     private static void tape() {
-        promise(35, "tape");
         CarpetReasons x = new CarpetReasons();
         for (int t : new int[] {-1, 6, MIN, MAX}) due("tape(" + t + ", 9, 99)", x.tape(t, 9, 99), NONE);
         for (int sort : new int[] {-2, 5, MIN, MAX}) due("tape(0, " + sort + ", 1)", x.tape(0, sort, 1), BAD);
@@ -1176,7 +1111,6 @@ public final class PromiseTests {
     }
 
     private static void item() {
-        promise(36, "item");
         CarpetReasons x = new CarpetReasons();
         for (int t : new int[] {-1, 6, MIN, MAX}) due("item(" + t + ", 0, 0)", x.item(t, 0, 0), NONE);
         due("nothing is there", x.item(0, -1, 0), NOTHING);
@@ -1209,7 +1143,6 @@ public final class PromiseTests {
     }
 
     private static void read() {
-        promise(37, "read");
         CarpetReasons x = new CarpetReasons();
         x.tape(2, 2, 3);
         x.item(2, 2, -9);
@@ -1222,7 +1155,6 @@ public final class PromiseTests {
     }
 
     private static void shift() {
-        promise(38, "shift");
         CarpetReasons x = new CarpetReasons();
         x.tape(0, 2, 6);
         x.tape(1, 2, 4);
@@ -1255,7 +1187,6 @@ public final class PromiseTests {
     }
 
     private static void constants() {
-        promise = "the constants";
         due("NONE", CarpetReasons.NONE, NONE);
         due("BAD", CarpetReasons.BAD, BAD);
         due("STATE", CarpetReasons.STATE, STATE);

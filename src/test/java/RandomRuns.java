@@ -46,6 +46,7 @@ public final class RandomRuns {
     }
 
     private void go() throws Exception {
+        if (random.nextInt(12) == 0) growOld();
         int goers = random.nextInt(7);
         for (int k = 0; k < goers; k++) call("goer");
         if (random.nextInt(5) > 0) feedRoom();
@@ -60,12 +61,19 @@ public final class RandomRuns {
         }
     }
 
+    /** Brings the day close to the last one. */
+    private void growOld() throws Exception {
+        for (int k = 0; k < 166; k++) call("pass", 60);
+        call("pass", 20 + random.nextInt(20));
+    }
+
     private void call(String name) throws Exception {
         Method m = METHODS.stream().filter(x -> x.getName().equals(name)).findFirst().get();
         // Much that changes all would leave little to reason about.
         boolean rare = List.of("undo", "tape", "pass", "image").contains(name);
         if (rare && random.nextInt(3) > 0) return;
-        call(name, arguments(name, m.getParameterTypes()));
+        boolean wild = random.nextInt(30) == 0;
+        call(name, wild ? wildArguments(m.getParameterTypes()) : arguments(name, m.getParameterTypes()));
     }
 
     private void call(String name, Object... args) throws Exception {
@@ -92,6 +100,20 @@ public final class RandomRuns {
                 return random.nextInt(3) == 0 ? far[random.nextInt(far.length)] : least;
             default: return least + random.nextInt(most - least + 1);
         }
+    }
+
+    /** Numbers that stand at an edge of something, wherever they are put. */
+    private Object[] wildArguments(Class<?>[] types) {
+        int[] edges = {Integer.MIN_VALUE, Integer.MAX_VALUE, Integer.MIN_VALUE + 1, -32, -16, -5, -2, -1, 0, 1, 2, 3, 4, 5, 6, 7, 8, 9, 10, 15, 16, 20,
+            21, 25, 26, 30, 31, 32, 45, 46, 50, 59, 60, 61, 65, 66, 99, 100, 127, 128, 9999, 10000, 65535, 65536};
+        Object[] all = new Object[types.length];
+        for (int k = 0; k < types.length; k++) {
+            int edge = edges[random.nextInt(edges.length)];
+            if (types[k] == boolean.class) all[k] = random.nextBoolean();
+            else if (types[k] == long.class) all[k] = random.nextBoolean() ? (long) edge : Long.MIN_VALUE + edge;
+            else all[k] = edge;
+        }
+        return all;
     }
 
     private int aGoer() {
