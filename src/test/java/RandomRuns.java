@@ -22,6 +22,7 @@ public final class RandomRuns {
 
     public static void main(String[] args) throws Exception {
         int runs = args.length > 0 ? Integer.parseInt(args[0]) : 150;
+        Watch.start(300 + 2 * runs);
         long first = args.length > 1 ? Long.parseLong(args[1]) : 1;
         int failed = 0;
         for (long seed = first; seed < first + runs; seed++) {
@@ -57,6 +58,9 @@ public final class RandomRuns {
             else if (dice < 8) askRealPrint();
             else if (dice < 10) bookWhatIs();
             else if (dice < 12) tellWearByTape();
+            else if (dice < 13) fillAndShiftTapes();
+            else if (dice < 14) planAndLookAtEnds();
+            else if (dice < 15) undoWhatIsDone();
             else call(METHODS.get(random.nextInt(METHODS.size())).getName());
         }
     }
@@ -227,6 +231,49 @@ public final class RandomRuns {
         for (int c = 0; c < 16; c++) call("item", tape, place + c, oracle.now.wear[c]);
         if (random.nextBoolean()) call("item", tape, place + random.nextInt(16), (long) random.nextInt(99));
         call("judge", tape, place);
+    }
+
+    private void fillAndShiftTapes() throws Exception {
+        int one = random.nextInt(6);
+        int other = random.nextInt(6);
+        int sort = random.nextInt(5);
+        call("tape", one, sort, 6);
+        call("tape", other, random.nextInt(9) == 0 ? random.nextInt(5) : sort, 3 + random.nextInt(4));
+        for (int i = 0; i < 6; i++) call("item", one, i, random.nextBoolean() ? random.nextLong() : random.nextLong() << 32);
+        call("shift", one, random.nextInt(3), other, random.nextInt(3), random.nextInt(5));
+        call("shift", other, random.nextInt(3), one, random.nextInt(3), random.nextInt(4));
+        call("shift", one, random.nextInt(3), one, random.nextInt(3), random.nextInt(5));
+        for (int i = 0; i < 6; i++) call("read", random.nextBoolean() ? one : other, i);
+        if (random.nextBoolean()) call("tape", one, -1, random.nextInt());
+    }
+
+    private void planAndLookAtEnds() throws Exception {
+        if (random.nextBoolean()) call("plan", -1, near(0, 3));
+        int cell = random.nextInt(16);
+        for (int k = 0; k < 6; k++) {
+            if (random.nextInt(3) == 0) call("plan", 2 + random.nextInt(2), cell);
+            else call("plan", aPlanRow());
+            if (random.nextBoolean()) call("ends", near(0, 1));
+        }
+        call("ends", 0);
+    }
+
+    private void undoWhatIsDone() throws Exception {
+        if (random.nextBoolean()) call("image");
+        for (int k = 0; k < 5; k++) {
+            if (random.nextInt(3) == 0) call("goer");
+            String[] changes = {"set", "move", "away", "stand", "see", "plan", "book", "pass"};
+            call(changes[random.nextInt(changes.length)]);
+            int goers = oracle.count(0);
+            if (goers > 0) call("row", goers - 1, random.nextInt(4), random.nextInt(10));
+        }
+        call("undo");
+        if (random.nextBoolean()) call("goer", 6, 0, 3, 3);
+        for (int k = 0; k < 6; k++) call("of", aGoer(), anOf());
+        for (int what = 3; what < 6; what++) call("told", what);
+        call("sole");
+        call("ends", 0);
+        call("looked");
     }
 
     // ---- texts of rooms

@@ -13,19 +13,7 @@ abstract class Sentences {
     private static int wrongInThis;
 
     static {
-        Thread watch = new Thread(Sentences::endWhatDoesNotEnd);
-        watch.setDaemon(true);
-        watch.start();
-    }
-
-    private static void endWhatDoesNotEnd() {
-        try {
-            Thread.sleep(SECONDS * 1000L);
-        } catch (InterruptedException e) {
-            return;
-        }
-        System.out.println("[" + current + "] it does not end");
-        Runtime.getRuntime().halt(1);
+        Watch.start(SECONDS);
     }
 
     /** Tests one sentence; the body says what is due. */

@@ -774,6 +774,8 @@ public final class TermsBoundaries extends Sentences {
             x.make("see(-1, 0, 0) see(2, 0, 1)").due("starts(0)", cells(3, 9));
             x.make("stand(1, true) stand(6, true)").due("starts(0)", 65535 - cells(2));
         });
+        sentence("STARTS: were FROM there: the ROW of a TOLD one is there, too", () ->
+            new Run("goer(6, 0, 0, 2) row(0, 0, 4) see(1, 4, 1)").due("starts(0)", cells(1)).make("see(1, 5, 2)").due("starts(0)", cells(1)));
         sentence("STARTS: none", () -> new Run("goer(0, 0, 0, 2) see(2, 2, 1)").due("starts(0)", 0));
         sentence("STARTS: of one who is AWAY", () ->
             new Run("goer(0, 0, 0, 2) away(0, true) see(2, 1, 1)").due("starts(0)", 0).make("see(-1, 0, 0) see(2, 0, 1)").due("starts(0)", 65535));
