@@ -686,6 +686,8 @@ public final class TermsBoundaries extends Sentences {
             for (int c = 0; c < 16; c++) if (c != 9) x.make("stand(" + c + ", true)");
             x.due("best(0)", NOT_ANY);
         });
+        sentence("STAND: of CELLS without FURNITURE: those that the PLAN would furnish have none", () ->
+            new Run("goer(0, 0, 0, 2) plan(3, 1) plan(3, 4) plan(0, 0)").due("ends(0)", 0).due("best(0)", cells(1, 4)));
         sentence("STAND: none of them FROM or TO of anybody", () -> {
             new Run("goer(0, 0, 0, 2) goer(0, 0, 4, 15) away(1, true)").due("best(0)", NOT_ANY);
             new Run("goer(0, 0, 0, 2) goer(0, 0, 15, 4) away(1, true)").due("best(0)", NOT_ANY);
@@ -953,6 +955,14 @@ public final class TermsBoundaries extends Sentences {
     }
 
     private static void beyondTheImage() {
+        sentence("THE IMAGE: which ROOM holds: none, however many come behind it", () -> {
+            for (int rooms = 1; rooms <= 6; rooms++) {
+                Run x = new Run("goer(0, 0, 0, 0) image()");
+                for (int k = 0; k < rooms; k++) x.room("bald 5;soft 3 c=0");
+                x.text("bald 6;soft 2 c=0").make("undo()").due("told(1)", 30).due("goer(0, 0, 0, 0)", 1).due("of(0, 50) of(1, 50)", 1);
+                x.make("away(1, true) see(0, 1, 1)").due("can(0, 0)", 10);
+            }
+        });
         sentence("THE IMAGE: ROOMS are not in it: they stay, 6 at most", () -> {
             Run x = new Run("image()");
             for (int k = 0; k < 6; k++) x.dueRoom("bald " + k, k).make("undo()");
