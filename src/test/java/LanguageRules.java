@@ -5,6 +5,9 @@ import java.lang.reflect.Modifier;
 import java.nio.charset.StandardCharsets;
 import java.nio.file.Files;
 import java.nio.file.Path;
+import java.util.HashMap;
+import java.util.HashSet;
+import java.util.Map;
 import java.util.Set;
 import java.util.TreeSet;
 import java.util.regex.Matcher;
@@ -101,19 +104,46 @@ public final class LanguageRules {
         rule("no lambda, no method reference", !code.contains("->") && !code.contains("::"));
         rule("no text joined by +", !code.contains("+ TEXT") && !code.contains("TEXT +") && !code.contains("+= TEXT"));
         rule("no block of static initialisers", !Pattern.compile("\\bstatic\\s*\\{").matcher(code).find());
-        methodLengths(all);
+        Map<String, String> bodies = methodBodies(code);
+        rule("methods are found, and those of the face among them", bodies.size() > 100 && bodies.containsKey("shift"));
+        Set<String> isDeep = new HashSet<>();
+        for (String name : bodies.keySet()) {
+            String body = bodies.get(name);
+            rule("sixty lines at most: " + name, body.lines().count() <= 60);
+            rule("no call makes an object: " + name, !Pattern.compile("\\bnew\\b").matcher(body).find());
+            if (callsDeep(name, bodies, new HashSet<>()) > 8) isDeep.add(name);
+        }
+        rule("calls go eight deep at most: " + isDeep, isDeep.isEmpty());
     }
 
-    private static void methodLengths(String all) {
-        String[] lines = all.split("\n");
+    /** For each name of a method what stands in it, if several have that name, in all of them; constructors left out. */
+    private static Map<String, String> methodBodies(String code) {
+        Map<String, String> bodies = new HashMap<>();
+        String[] lines = code.split("\n");
+        Pattern head = Pattern.compile("( +)(?:[\\w\\[\\]]+ )+([a-z]\\w*)\\(.*\\) \\{");
         for (int k = 0; k < lines.length; k++) {
-            String line = lines[k];
-            boolean begins = line.matches(" +[\\w\\[\\] ]+\\(.*\\) \\{") && !line.matches(" +(if|for|while|switch|else|return)\\b.*");
-            if (!begins) continue;
-            String indent = line.substring(0, line.indexOf(line.trim()));
-            int end = k;
-            while (end < lines.length && !lines[end].equals(indent + "}")) end++;
-            rule("sixty lines at most:" + line, end - k <= 60);
+            Matcher m = head.matcher(lines[k]);
+            if (!m.matches() || lines[k].matches(" +(if|for|while|switch|else|return|do)\\b.*")) continue;
+            StringBuilder body = new StringBuilder();
+            int end = k + 1;
+            while (end < lines.length && !lines[end].equals(m.group(1) + "}")) body.append(lines[end++]).append('\n');
+            bodies.merge(m.group(2), body.toString(), String::concat);
         }
+        return bodies;
+    }
+
+    /** How many calls stand open at most, those of recursion left out. */
+    private static int callsDeep(String name, Map<String, String> bodies, Set<String> open) {
+        int deepest = 0;
+        open.add(name);
+        Matcher called = Pattern.compile("\\b(\\w+)\\(").matcher(bodies.get(name));
+        while (called.find()) {
+            String other = called.group(1);
+            if (bodies.containsKey(other) && !open.contains(other)) {
+                deepest = Math.max(deepest, callsDeep(other, bodies, open));
+            }
+        }
+        open.remove(name);
+        return deepest + 1;
     }
 }

@@ -47,6 +47,7 @@ public final class PromiseTests extends Sentences {
         sentence("37: read", PromiseTests::read);
         sentence("38: shift", PromiseTests::shift);
         sentence("the constants", PromiseTests::constants);
+        sentence("README.md's example", PromiseTests::exampleOfReadme);
         end();
     }
 
@@ -1184,6 +1185,17 @@ public final class PromiseTests extends Sentences {
         due("nothing in the other", x.shift(2, -1, 5, 0, 1), NOTHING);
         due("unlike sorts ahead of places", x.shift(0, -1, 2, 0, 1), CAST);
         due("nothing changed", x.read(0, 0), 1);
+    }
+
+    private static void exampleOfReadme() {
+        CarpetReasons carpet = new CarpetReasons();
+        due("goer(1, 0, 0, 3)", carpet.goer(1, 0, 0, 3), 0);
+        due("pass(5)", carpet.pass(5), 5);
+        due("told(10)", carpet.told(10), 10);
+        due("worn(3)", carpet.worn(3), 10);
+        due("room()", room(carpet, "soft 2 x=1;bald 20"), 0);
+        due("of(0, 51)", carpet.of(0, 51), 3);
+        due("worn(3)", carpet.worn(3), 5);
     }
 
     private static void constants() {

@@ -22,18 +22,21 @@ public final class RandomRuns {
 
     public static void main(String[] args) throws Exception {
         int runs = args.length > 0 ? Integer.parseInt(args[0]) : 150;
-        Watch.start(300 + 2 * runs);
+        Watch.start(120 + 2 * runs);
         long first = args.length > 1 ? Long.parseLong(args[1]) : 1;
         int failed = 0;
+        long answers = 0;
         for (long seed = first; seed < first + runs; seed++) {
             RandomRuns run = new RandomRuns(seed);
             run.go();
+            answers += run.calls.size();
             if (run.wrong) {
                 failed++;
                 System.out.println("seed " + seed + ":\n  " + String.join("\n  ", run.calls));
                 if (failed == 3) break;
             }
         }
+        System.out.println(runs + " runs, " + answers + " answers, " + failed + " runs wrong");
         if (failed > 0) System.exit(1);
     }
 

@@ -4,7 +4,7 @@ abstract class Sentences {
     static final int NOTHING = -11, CAST = -12, PLACE = -13, SIZE = -14;
     static final long NO = Long.MIN_VALUE;
 
-    private static final int SECONDS = 300;
+    private static final int SECONDS = 120;
 
     private static String current = "";
     private static int tests;
